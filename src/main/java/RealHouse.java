@@ -28,7 +28,7 @@ public final class RealHouse {
   private int tapeSize;
   private int[] script = new int[256];
   private int scriptSize;
-  private final Real[] root = new Real[MANY];
+  private final Real[] rootAt = new Real[MANY];
   private final int[] rootTimes = new int[MANY];
   private int rootCount;
   private final Real[] spotX = new Real[MANY];
@@ -119,7 +119,7 @@ public final class RealHouse {
     cells.collect();
     rootCount = cells.marks;
     for (int i = 0; i < rootCount; i++) {
-      keep(root, i, cells.mark[i]);
+      keep(rootAt, i, cells.mark[i]);
       rootTimes[i] = cells.often[i];
     }
     return rootCount;
@@ -130,7 +130,7 @@ public final class RealHouse {
   }
 
   public int root(int i, int k) {
-    return i >= 0 && i < rootCount ? putReal(root[i], k) : REFUSED;
+    return i >= 0 && i < rootCount ? putReal(rootAt[i], k) : REFUSED;
   }
 
   public int signAt(int i, int n) {
@@ -142,7 +142,7 @@ public final class RealHouse {
       return fault;
     }
     tapeSize = 0;
-    return 1 + root[i].sign(reader.left.c[0]);
+    return 1 + rootAt[i].sign(reader.left.c[0]);
   }
 
   public int below(int i, int n) {
@@ -163,7 +163,7 @@ public final class RealHouse {
     cells.adopt();
     cells.collect();
     int less = 0;
-    for (int j = 0; j < cells.marks && cells.mark[j].order(root[i]) < 0; j++) {
+    for (int j = 0; j < cells.marks && cells.mark[j].order(rootAt[i]) < 0; j++) {
       less++;
     }
     return less;
@@ -357,8 +357,8 @@ public final class RealHouse {
     if (j < 0 || j >= HELD || i < 0 || i >= rootCount) {
       return REFUSED;
     }
-    keep(kept, j, root[i]);
-    return root[i].m.n - 1;
+    keep(kept, j, rootAt[i]);
+    return rootAt[i].m.n - 1;
   }
 
   public int reckon(int j, int what, int a, int b) {
@@ -601,7 +601,7 @@ public final class RealHouse {
     void sum(Big a, Big b, int sb) {
       int an = a.n;
       int bn = b.n;
-      int top = Math.max(an, bn);
+      int top = an > bn ? an : bn;
       if (d.length <= top) {
         d = Arrays.copyOf(d, top + 5);
       }
@@ -626,7 +626,7 @@ public final class RealHouse {
       int sign = an != bn ? an - bn : same < 0 ? 0 : a.d[same] - b.d[same];
       int[] more = sign < 0 ? b.d : a.d;
       int[] less = sign < 0 ? a.d : b.d;
-      int lessN = Math.min(an, bn);
+      int lessN = an < bn ? an : bn;
       for (int i = 0; i < top; i++) {
         int v = more[i] - (i < lessN ? less[i] : 0) - carry;
         d[i] = v & MASK;
@@ -650,21 +650,23 @@ public final class RealHouse {
       }
       if (d.length < an + bn) {
         d = new int[an + bn + 4];
-      } else {
-        Arrays.fill(d, 0, an + bn, 0);
       }
+      int[] to = d;
       int[] y = b.d;
+      for (int j = 0; j < bn; j++) {
+        to[j] = 0;
+      }
       for (int i = 0; i < an; i++) {
         long f = a.d[i];
         long carry = 0;
         for (int j = 0; j < bn; j++) {
-          long v = f * y[j] + d[i + j] + carry;
-          d[i + j] = (int) v & MASK;
+          long v = f * y[j] + to[i + j] + carry;
+          to[i + j] = (int) v & MASK;
           carry = v >>> LIMB;
         }
-        d[i + bn] = (int) carry;
+        to[i + bn] = (int) carry;
       }
-      n = d[an + bn - 1] == 0 ? an + bn - 1 : an + bn;
+      n = to[an + bn - 1] == 0 ? an + bn - 1 : an + bn;
       s = a.s * b.s;
     }
 
@@ -894,8 +896,8 @@ public final class RealHouse {
     final Big high = new Big();
     Big[] rest = new Big[0];
     /** Bounds of the powers of the real number that was asked last, times 2^tableLevel. */
-    Big[] least = new Big[0];
-    Big[] most = new Big[0];
+    Big[] under = new Big[0];
+    Big[] over = new Big[0];
     Real owner;
     int tableLevel;
     int tableSize;
@@ -995,15 +997,23 @@ public final class RealHouse {
       }
     }
 
-    /** Adds a times v; a may be this one. */
-    void addScaled(Poly a, Big v, int sign) {
+    /** Adds a times sign, which is 1 or -1. */
+    void addAll(Poly a, int sign) {
+      widen(a.n);
+      for (int i = 0; i < a.n; i++) {
+        c[i].sum(c[i], a.c[i], sign);
+      }
+      trim();
+    }
+
+    void addScaled(Poly a, Big v) {
       if (v.s == 0) {
         return;
       }
       widen(a.n);
       for (int i = 0; i < a.n; i++) {
         desk.f.product(a.c[i], v);
-        c[i].sum(c[i], desk.f, sign);
+        c[i].sum(c[i], desk.f, 1);
       }
       trim();
     }
@@ -1257,8 +1267,7 @@ public final class RealHouse {
 
     void subtract(Curve f) {
       for (int j = 0; j < c.length && j < f.c.length; j++) {
-        Poly row = f.c[j];
-        c[j].addScaled(row, row.desk.one, -1);
+        c[j].addAll(f.c[j], -1);
       }
     }
 
@@ -1273,7 +1282,7 @@ public final class RealHouse {
       clear();
       for (int j = 1; j < f.c.length && j <= c.length; j++) {
         f.c[j].desk.h.put(j);
-        c[j - 1].addScaled(f.c[j], f.c[j].desk.h, 1);
+        c[j - 1].addScaled(f.c[j], f.c[j].desk.h);
       }
     }
 
@@ -1634,21 +1643,30 @@ public final class RealHouse {
 
     /** a times b modulo m, whose highest coefficient is 1. */
     void multiply(int to, int a, int b, int m) {
-      Arrays.fill(wide, 0);
+      long[] product = wide;
+      long[] by = row[b];
+      long[] less = row[m];
+      int last = deg[b];
+      int n = deg[m];
+      int top = Math.max(n, deg[a] + last);
+      for (int e = 0; e <= top; e++) {
+        product[e] = 0;
+      }
       for (int i = 0; i <= deg[a]; i++) {
         long f = row[a][i];
-        for (int j = 0; j <= deg[b]; j++) {
-          wide[i + j] = (wide[i + j] + f * row[b][j]) % p;
+        for (int j = 0; j <= last; j++) {
+          product[i + j] = (product[i + j] + f * by[j]) % p;
         }
       }
-      int n = deg[m];
-      for (int e = deg[a] + deg[b]; e >= n && n >= 0; e--) {
-        long f = p - wide[e];
+      for (int e = top; e >= n && n >= 0; e--) {
+        long f = p - product[e];
         for (int j = 0; j < n; j++) {
-          wide[e - n + j] = (wide[e - n + j] + f * row[m][j]) % p;
+          product[e - n + j] = (product[e - n + j] + f * less[j]) % p;
         }
       }
-      System.arraycopy(wide, 0, row[to], 0, WIDTH);
+      for (int e = 0; e < n; e++) {
+        row[to][e] = product[e];
+      }
       deg[to] = n - 1;
       trim(to);
     }
@@ -1871,12 +1889,12 @@ public final class RealHouse {
     /** Counts how often each factor divides the whole, and puts them into their order. */
     private void countAll() {
       for (int i = 0; i < count; i++) {
-        int times = 0;
-        while (whole.n > 1 && part.quotient(whole, found[i])) {
-          whole.copy(part);
-          times++;
-        }
         Poly f = found[i];
+        int divides = 0;
+        while (divides < FAR && whole.n > 1 && part.quotient(whole, f)) {
+          whole.copy(part);
+          divides++;
+        }
         int place = i;
         while (place > 0 && f.order(found[place - 1]) < 0) {
           found[place] = found[place - 1];
@@ -1884,7 +1902,7 @@ public final class RealHouse {
           place--;
         }
         found[place] = f;
-        often[place] = times;
+        often[place] = divides;
       }
     }
   }
@@ -2040,9 +2058,9 @@ public final class RealHouse {
           Big v = f.c[i];
           int turn = c.s < 0 && i % 2 == 1 ? -1 : 1;
           boolean up = v.s * turn > 0;
-          desk.f.product(v, up ? desk.least[i] : desk.most[i]);
+          desk.f.product(v, up ? desk.under[i] : desk.over[i]);
           low.sum(low, desk.f, turn);
-          desk.f.product(v, up ? desk.most[i] : desk.least[i]);
+          desk.f.product(v, up ? desk.over[i] : desk.under[i]);
           high.sum(high, desk.f, turn);
         }
         if (low.s == high.s && low.s != 0) {
@@ -2060,8 +2078,8 @@ public final class RealHouse {
 
     /** Bounds of its size's first powers, so that each sign needs but one product a term. */
     private void fillTable(int powers, int level) {
-      desk.least = Desk.row(desk.least, powers);
-      desk.most = Desk.row(desk.most, powers);
+      desk.under = Desk.row(desk.under, powers);
+      desk.over = Desk.row(desk.over, powers);
       Big from = desk.narrow[6];
       Big to = desk.narrow[7];
       from.right(c, k - level);
@@ -2073,14 +2091,14 @@ public final class RealHouse {
         from.copy(to);
         to.copy(desk.f);
       }
-      desk.least[0].left(desk.one, level);
-      desk.most[0].copy(desk.least[0]);
+      desk.under[0].left(desk.one, level);
+      desk.over[0].copy(desk.under[0]);
       for (int i = 1; i < powers; i++) {
-        desk.f.product(desk.least[i - 1], from);
-        desk.least[i].right(desk.f, level);
-        desk.f.product(desk.most[i - 1], to);
-        desk.most[i].right(desk.f, level);
-        desk.most[i].sum(desk.most[i], desk.one, 1);
+        desk.f.product(desk.under[i - 1], from);
+        desk.under[i].right(desk.f, level);
+        desk.f.product(desk.over[i - 1], to);
+        desk.over[i].right(desk.f, level);
+        desk.over[i].sum(desk.over[i], desk.one, 1);
       }
       desk.owner = this;
       desk.tableLevel = level;
@@ -2190,10 +2208,8 @@ public final class RealHouse {
         to.c[j].n = 0;
         to.c[j].add(here, 0);
       }
-      int d = to.degree();
-      while (d >= 0 && at.sign(to.c[d]) == 0) {
-        to.c[d].n = 0;
-        d = to.degree();
+      for (int j = 3; j >= 0 && at.sign(to.c[j]) == 0; j--) {
+        to.c[j].n = 0;
       }
     }
 
@@ -2265,12 +2281,12 @@ public final class RealHouse {
       }
       for (int j = 0; j < d; j++) {
         for (int i = d - 1; i >= j; i--) {
-          work[i].addScaled(work[i + 1], e, 1);
+          work[i].addScaled(work[i + 1], e);
         }
       }
       for (int j = 0; j < d; j++) {
         for (int i = 1; i <= d - j; i++) {
-          work[i].addScaled(work[i - 1], work[i].desk.one, 1);
+          work[i].addAll(work[i - 1], 1);
         }
       }
       leftSign = d < 0 ? 0 : at.sign(work[0]);
@@ -2425,10 +2441,10 @@ public final class RealHouse {
       there.left(e, Math.max(0, -level));
       for (int i = d; i >= 0; i--) {
         other.n = 0;
-        other.addScaled(value, there, 1);
+        other.addScaled(value, there);
         work[2].copy(f.c[i]);
         work[2].lift(Math.max(0, level) * (d - i));
-        other.addScaled(work[2], at.desk.one, 1);
+        other.addAll(work[2], 1);
         Poly was = value;
         value = other;
         other = was;
@@ -3009,7 +3025,11 @@ public final class RealHouse {
       }
       int px = 0;
       int py = 0;
-      for (int c = next(); c == 'x' && withX || c == 'y' && withY; c = next()) {
+      for (int i = 0; i < TAPE; i++) {
+        int c = next();
+        if (!(c == 'x' && withX || c == 'y' && withY)) {
+          break;
+        }
         int digit = at + 1 < size ? text[at + 1] - '0' : -1;
         boolean told = digit >= 0 && digit <= 9;
         int more = told ? digit : 1;
@@ -3086,11 +3106,12 @@ public final class RealHouse {
         }
         readComparison();
         deep -= closeNots();
-        for (c = next(); fault < 0 && stacked > 0 && c == ')'; c = next()) {
+        for (int j = 0; j < DEEP && stacked > 0 && next() == ')'; j++) {
           closeBracket();
           at++;
           deep -= 1 + closeNots();
         }
+        c = next();
         if (stacked == 0) {
           expectEnd();
           return;
@@ -3119,25 +3140,24 @@ public final class RealHouse {
       }
     }
 
-    private int top() {
-      return stacked > 0 ? stack[stacked - 1] : 0;
-    }
-
     /** How many ~ end with what has been read. */
     private int closeNots() {
-      int closed = 0;
-      while (top() == '~') {
+      int before = stacked;
+      while (stacked > 0 && stack[stacked - 1] == '~') {
         emit(NOT);
         stacked--;
-        closed++;
       }
-      return closed;
+      return before - stacked;
     }
 
     /** Ends what binds as strongly as c at least. */
     private void closeJoins(int c) {
-      while (top() == '&' || c == '|' && top() == '|') {
-        emit(top() == '&' ? AND : OR);
+      while (stacked > 0) {
+        int open = stack[stacked - 1];
+        if (open != '&' && (open != '|' || c != '|')) {
+          return;
+        }
+        emit(open == '&' ? AND : OR);
         stacked--;
       }
     }
