@@ -262,7 +262,7 @@ public final class RealHouse {
       return REFUSED;
     }
     reader.begin(tape, n, true, false);
-    reader.readHeight();
+    reader.readOverY();
     reader.readFormula();
     if (reader.fault >= 0) {
       return faulty();
@@ -446,12 +446,14 @@ public final class RealHouse {
     } else if (what == 4) {
       told.addProduct(p, q, 1);
     } else if (what == 8) {
-      reader.one.slopeX(p);
-      reader.two.slopeY(q);
-      told.addProduct(reader.one, reader.two, 1);
-      reader.one.slopeY(p);
-      reader.two.slopeX(q);
-      told.addProduct(reader.one, reader.two, -1);
+      Curve slopeP = reader.curve[0];
+      Curve slopeQ = reader.curve[1];
+      slopeP.slopeX(p);
+      slopeQ.slopeY(q);
+      told.addProduct(slopeP, slopeQ, 1);
+      slopeP.slopeY(p);
+      slopeQ.slopeX(q);
+      told.addProduct(slopeP, slopeQ, -1);
     } else {
       told.copy(p);
       if (what == 3) {
@@ -973,6 +975,14 @@ public final class RealHouse {
     void add(Big v, int i) {
       widen(i + 1);
       c[i].sum(c[i], v, 1);
+      trim();
+    }
+
+    /** Adds v times x^i. */
+    void addNumber(long v, int i) {
+      desk.f.put(v);
+      widen(i + 1);
+      c[i].sum(c[i], desk.f, 1);
       trim();
     }
 
@@ -2155,9 +2165,11 @@ public final class RealHouse {
     /** The different roots, ascending. */
     final int[] rank = new int[MOST];
     int ranks;
+    /** The sign of each shape where that was asked last. */
+    final int[] signs = new int[3];
 
-    Line(Desk desk, Minors minors) {
-      this.minors = minors;
+    Line(Desk desk) {
+      minors = new Minors(desk);
       for (int i = 0; i < 3; i++) {
         shape[i] = new Curve(desk, 4);
         core[i] = new Curve(desk, 4);
@@ -2453,7 +2465,7 @@ public final class RealHouse {
     }
 
     /** The signs of all shapes just above root number i, or below all of them for -1. */
-    void findSigns(int i, int[] signs, int shapes) {
+    void findSigns(int i, int shapes) {
       here.put(0);
       int level = 0;
       if (ranks > 0) {
@@ -2479,7 +2491,6 @@ public final class RealHouse {
   private static final class Cells {
     /** So fine are places found at once: then most of them are ordered without more work. */
     private static final int FINE = 32;
-    final Minors minors;
     final Splitter splitter;
     final Line line;
     final Poly spare;
@@ -2502,12 +2513,10 @@ public final class RealHouse {
     final Curve tie;
     final Curve flat;
     final Real probe;
-    final int[] signs = new int[3];
 
     Cells(Desk desk) {
-      minors = new Minors(desk);
       splitter = new Splitter(desk);
-      line = new Line(desk, minors);
+      line = new Line(desk);
       spare = new Poly(desk);
       other = new Poly(desk);
       tie = new Curve(desk, 10);
@@ -2587,7 +2596,7 @@ public final class RealHouse {
         spare.n = 0;
         return spare;
       }
-      return minors.run(minors.lay(f, g, 0, 0));
+      return line.minors.run(line.minors.lay(f, g, 0, 0));
     }
 
     void load(Reader r) {
@@ -2626,7 +2635,7 @@ public final class RealHouse {
     private void cast(int place, Curve f, Curve g) {
       int least = Math.min(f.degree(), g.degree());
       for (int j = 0; j < least; j++) {
-        Poly p = minors.run(minors.lay(f, g, j, j));
+        Poly p = line.minors.run(line.minors.lay(f, g, j, j));
         if (j == 0) {
           meet[place].copy(p);
         }
@@ -2662,14 +2671,14 @@ public final class RealHouse {
       line.arrange();
       boolean all = r.inner == 'A';
       for (int i = -1; i < line.ranks; i++) {
-        line.findSigns(i, signs, curves);
-        if (r.holds(signs) != all) {
+        line.findSigns(i, curves);
+        if (r.holds(line.signs) != all) {
           return !all;
         }
         for (int j = 0; j < curves && i >= 0; j++) {
-          signs[j] = line.hasRoot(i, j) ? 0 : signs[j];
+          line.signs[j] = line.hasRoot(i, j) ? 0 : line.signs[j];
         }
-        if (r.holds(signs) != all) {
+        if (r.holds(line.signs) != all) {
           return !all;
         }
       }
@@ -2923,8 +2932,6 @@ public final class RealHouse {
     boolean refused;
     final Curve left;
     final Curve right;
-    final Curve one;
-    final Curve two;
     final Curve told;
     final Curve[] curve = new Curve[3];
     int curves;
@@ -2937,13 +2944,10 @@ public final class RealHouse {
     int stepCount;
     final int[] stack = new int[TAPE];
     int stacked;
-    final Big value = new Big();
 
     Reader(Desk desk) {
       left = new Curve(desk, 9);
       right = new Curve(desk, 9);
-      one = new Curve(desk, 9);
-      two = new Curve(desk, 9);
       told = new Curve(desk, 17);
       for (int i = 0; i < curve.length; i++) {
         curve[i] = new Curve(desk, 9);
@@ -3045,8 +3049,7 @@ public final class RealHouse {
         fail();
         return;
       }
-      value.put(sign * v);
-      to.c[py].add(value, px);
+      to.c[py].addNumber(sign * v, px);
     }
 
     /** Reads E or A and a variable: E or A, or 0 if neither stands there. */
@@ -3085,7 +3088,7 @@ public final class RealHouse {
     }
 
     /** Reads what the text of a SOLUTION may begin with. */
-    void readHeight() {
+    void readOverY() {
       inner = readQuantifier(true);
     }
 
@@ -3168,30 +3171,30 @@ public final class RealHouse {
     }
 
     private void readComparison() {
-      readPoly(one);
+      readPoly(left);
       int signs = fault < 0 ? readRelation() : 0;
       if (fault < 0) {
-        readPoly(two);
+        readPoly(right);
       }
       if (fault >= 0) {
         return;
       }
-      one.subtract(two);
-      if (!one.isSmall()) {
+      left.subtract(right);
+      if (!left.isSmall()) {
         refused = true;
         return;
       }
-      if (one.degree() <= 0 && one.c[0].n <= 1) {
-        int s = one.c[0].n == 0 ? 0 : one.c[0].c[0].s;
+      if (left.degree() <= 0 && left.c[0].n <= 1) {
+        int s = left.c[0].n == 0 ? 0 : left.c[0].c[0].s;
         emit((signs >> s + 1 & 1) == 1 ? TRUE : FALSE);
         return;
       }
       for (int i = 0; i < curves; i++) {
-        if (one.isSame(curve[i], 1)) {
+        if (left.isSame(curve[i], 1)) {
           emit(8 * i + signs);
           return;
         }
-        if (one.isSame(curve[i], -1)) {
+        if (left.isSame(curve[i], -1)) {
           emit(8 * i + (signs & 2) + (signs >> 2) + (signs & 1) * 4);
           return;
         }
@@ -3200,7 +3203,7 @@ public final class RealHouse {
         refused = true;
         return;
       }
-      curve[curves].copy(one);
+      curve[curves].copy(left);
       emit(8 * curves + signs);
       curves++;
     }
