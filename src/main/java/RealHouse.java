@@ -367,12 +367,18 @@ public final class RealHouse {
     }
     Real left = kept[a];
     Real right = kept[b];
-    boolean byZero = what == 3 && right.m.n == 2 && right.m.c[0].s == 0;
-    if (byZero || (left.m.n - 1) * (right.m.n - 1) > DEGREE) {
+    if (what == 3 && right.isZero() || (left.m.n - 1) * (right.m.n - 1) > DEGREE) {
       return REFUSED;
     }
+    Poly among = cells.reckoned(what, left.m, right.m);
+    // a fraction that is not 0 moves or stretches the other's polynomial, which stays irreducible
+    boolean whole = left.m.n == 2 || right.m.n == 2;
     cells.clear();
-    cells.splitter.run(cells.reckoned(what, left.m, right.m));
+    if (whole && !left.isZero() && !right.isZero()) {
+      cells.splitter.takeWhole(among);
+    } else {
+      cells.splitter.run(among);
+    }
     cells.adopt();
     cells.collect();
     int place = cells.placeOf(what, left, right);
@@ -783,7 +789,7 @@ public final class RealHouse {
       long t2 = (u[at] << shift | u[at - 1] >>> back) & MASK;
       long t1 = (u[at - 1] << shift | u1 >>> back) & MASK;
       long t0 = (u1 << shift | u0 >>> back) & MASK;
-      long q = (t2 << LIMB | t1) / w1;
+      long q = w1 > 0 ? (t2 << LIMB | t1) / w1 : 0;
       long rest = (t2 << LIMB | t1) - q * w1;
       for (int i = 0; i < 2 && rest <= MASK && (q > MASK || q * w0 > (rest << LIMB | t0)); i++) {
         q--;
@@ -1437,12 +1443,12 @@ public final class RealHouse {
     /** The degree of each row, -1 for 0. */
     final int[] deg = new int[28];
     final long[] wide = new long[2 * WIDTH];
-    long p;
+    long p = PRIMES[0];
     int count;
 
     /** Takes f as it is modulo a prime: whether its degree stays and no factor is there twice. */
     boolean take(Poly f, int which) {
-      p = PRIMES[which];
+      p = PRIMES[which % PRIMES.length];
       for (int i = 0; i < f.n && i < WIDTH; i++) {
         row[WHOLE][i] = f.c[i].residue((int) p);
       }
@@ -1757,6 +1763,14 @@ public final class RealHouse {
       countAll();
     }
 
+    /** Takes f, known to be irreducible but for a number that divides it, as the only factor. */
+    void takeWhole(Poly f) {
+      found[0].copy(f);
+      found[0].primitive();
+      often[0] = 1;
+      count = 1;
+    }
+
     /** The factor x, taken out ahead, so that the others' last coefficients are not 0. */
     private void takeLine() {
       int low = 0;
@@ -1946,6 +1960,10 @@ public final class RealHouse {
       }
     }
 
+    boolean isZero() {
+      return m.n == 2 && m.c[0].s == 0;
+    }
+
     /** Becomes e/2^level; level is not below 0. */
     void placeFraction(Big e, int level) {
       m.n = 0;
@@ -2115,20 +2133,23 @@ public final class RealHouse {
       desk.tableSize = powers;
     }
 
-    /** -1, 0 or 1, as it is less than r, the same, or greater. */
+    /** -1, 0 or 1, as it is less than r, the same, or greater: their places are apart then. */
     int order(Real r) {
-      int by = 0;
-      for (int round = 0; round < 16 && by == 0; round++) {
-        int level = Math.max(k, r.k);
+      int level = Math.max(k, r.k);
+      if (m.isSame(r.m)) {
         refine(level);
         r.refine(level);
-        by = c.order(r.c);
-        if (by == 0 && m.isSame(r.m)) {
-          return 0;
-        }
-        if (by == 0) {
-          refine(Math.max(COARSE, 2 * level));
-        }
+        return c.order(r.c);
+      }
+      level = Math.min(k, r.k);
+      int by = 0;
+      for (int round = 0; round < 16 && by == 0; round++) {
+        refine(level);
+        r.refine(level);
+        desk.low.right(c, k - level);
+        desk.high.right(r.c, r.k - level);
+        by = desk.low.order(desk.high);
+        level = Math.max(COARSE, 2 * level);
       }
       return by;
     }
@@ -2834,10 +2855,10 @@ public final class RealHouse {
       Big from = splitter.value;
       int level = FINE;
       for (int round = 0; round < 16; round++) {
-        level = Math.max(2 * level, Math.max(a.k, b.k));
+        level *= 2;
         a.refine(level);
         b.refine(level);
-        if (!enclose(what, a, b)) {
+        if (!enclose(what, a, b, level)) {
           continue;
         }
         int fine = what == 2 ? 2 * level : level;
@@ -2861,41 +2882,35 @@ public final class RealHouse {
     }
 
     /**
-     * Bounds, here and there, of what is reckoned of a and b, both known at one level: at that
+     * Bounds, here and there, of what is reckoned of a and b as they are known at a level: at that
      * level, but for a product, which has the double one. False if b may be 0 in a quotient.
      */
-    private boolean enclose(int what, Real a, Real b) {
+    private boolean enclose(int what, Real a, Real b, int level) {
       Big low = line.here;
       Big high = line.there;
       Big one = a.desk.one;
-      if (what < 2) {
-        low.sum(a.c, b.c, what == 0 ? 1 : -1);
-        if (what == 1) {
-          low.sum(low, one, -1);
-        }
-        high.sum(low, one, 1);
-        high.sum(high, one, 1);
-        return true;
-      }
       Big u = line.scale[0];
       Big v = line.scale[1];
       Big w = line.scale[2];
       for (int corner = 0; corner < 4; corner++) {
-        u.copy(a.c);
-        v.copy(b.c);
+        u.right(a.c, a.k - level);
+        v.right(b.c, b.k - level);
+        int side = v.s;
         if (corner % 2 == 1) {
           u.sum(u, one, 1);
         }
         if (corner > 1) {
           v.sum(v, one, 1);
         }
-        if (what == 3 && (v.s == 0 || v.s != b.c.s)) {
+        if (what == 3 && (v.s == 0 || v.s != side)) {
           return false;
         }
-        if (what == 2) {
+        if (what < 2) {
+          w.sum(u, v, what == 0 ? 1 : -1);
+        } else if (what == 2) {
           w.product(u, v);
         } else {
-          u.left(u, a.k);
+          u.left(u, level);
           w.divide(u, v, line.scale[3]);
         }
         if (corner == 0 || w.order(low) < 0) {

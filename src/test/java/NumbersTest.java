@@ -10,6 +10,7 @@ public final class NumbersTest {
     refusesToReckon();
     refusesLong();
     compares();
+    staysQuick();
     House.end();
   }
 
@@ -197,5 +198,22 @@ public final class NumbersTest {
     House.due("none there", -1, h.x.compare(0, 4));
     House.due("none there", -1, h.x.compare(4, 0));
     House.due("none there", -1, h.x.compare(-1, 8));
+  }
+
+  /** What is known of a number must not grow with how often it is reckoned with. */
+  private static void staysQuick() {
+    House h = new House();
+    take(h, 0, "x4-10x2+1", 3);
+    take(h, 1, "x2-5", 1);
+    take(h, 2, "3x-7", 0);
+    h.x.reckon(3, 2, 0, 2);
+    for (int i = 0; i < 60; i++) {
+      House.due("there", 4, h.x.reckon(0, 2, 0, 2));
+      House.due("the same", 1, h.x.compare(0, 3));
+      House.due("and back", 4, h.x.reckon(0, 3, 0, 2));
+      House.due("of degree 8", 8, h.x.reckon(4, 2, 0, 1));
+    }
+    h.wrote("as it was", "x4-10x2+1", h.x.least(0));
+    h.wrote("as it was", "3", h.x.number(0, 0));
   }
 }
