@@ -211,7 +211,7 @@ public final class NumbersTest {
       House.due("there", 4, h.x.reckon(0, 2, 0, 2));
       House.due("the same", 1, h.x.compare(0, 3));
       House.due("and back", 4, h.x.reckon(0, 3, 0, 2));
-      House.due("of degree 8", 8, h.x.reckon(4, 2, 0, 1));
+      House.due("of degree 8", 8, h.x.reckon(4, 0, 0, 1));
     }
     h.wrote("as it was", "x4-10x2+1", h.x.least(0));
     h.wrote("as it was", "3", h.x.number(0, 0));
