@@ -891,17 +891,21 @@ public final class RealHouse {
     final Big sixty = new Big();
     final Big spare = new Big();
     final Big told = new Big();
+    /** For single steps: none calls another one while it needs what it has put here. */
     final Big f = new Big();
     final Big g = new Big();
     final Big h = new Big();
+    /** What findGcd found last, and what it works with. */
     final Big gcd = new Big();
     final Big gcdA = new Big();
     final Big gcdB = new Big();
     final Big gcdQ = new Big();
     /** For the narrowing of a real number. */
     final Big[] narrow = new Big[8];
+    /** For the sign at a real number, and for the order of two. */
     final Big low = new Big();
     final Big high = new Big();
+    /** What a division of polynomials leaves. */
     Big[] rest = new Big[0];
     /** Bounds of the powers of the real number that was asked last, times 2^tableLevel. */
     Big[] under = new Big[0];
