@@ -101,20 +101,12 @@ public final class RealHouse {
   }
 
   public int roots(int n) {
-    if (isNoLength(n)) {
-      return REFUSED;
+    int answer = readInX(n, true);
+    if (answer < 0) {
+      return answer;
     }
-    int fault = readInX(n);
-    if (fault < 0) {
-      return fault;
-    }
-    Poly p = reader.left.c[0];
-    if (p.n == 0) {
-      return REFUSED;
-    }
-    tapeSize = 0;
     cells.clear();
-    cells.splitter.run(p);
+    cells.splitter.run(reader.left.c[0]);
     cells.adopt();
     cells.collect();
     rootCount = cells.marks;
@@ -134,32 +126,23 @@ public final class RealHouse {
   }
 
   public int signAt(int i, int n) {
-    if (i < 0 || i >= rootCount || isNoLength(n)) {
+    if (i < 0 || i >= rootCount) {
       return REFUSED;
     }
-    int fault = readInX(n);
-    if (fault < 0) {
-      return fault;
-    }
-    tapeSize = 0;
-    return 1 + rootAt[i].sign(reader.left.c[0]);
+    int answer = readInX(n, false);
+    return answer < 0 ? answer : 1 + rootAt[i].sign(reader.left.c[0]);
   }
 
   public int below(int i, int n) {
-    if (i < 0 || i >= rootCount || isNoLength(n)) {
+    if (i < 0 || i >= rootCount) {
       return REFUSED;
     }
-    int fault = readInX(n);
-    if (fault < 0) {
-      return fault;
+    int answer = readInX(n, true);
+    if (answer < 0) {
+      return answer;
     }
-    Poly p = reader.left.c[0];
-    if (p.n == 0) {
-      return REFUSED;
-    }
-    tapeSize = 0;
     cells.clear();
-    cells.splitter.run(p);
+    cells.splitter.run(reader.left.c[0]);
     cells.adopt();
     cells.collect();
     int less = 0;
@@ -320,20 +303,12 @@ public final class RealHouse {
   }
 
   public int factors(int n) {
-    if (isNoLength(n)) {
-      return REFUSED;
+    int answer = readInX(n, true);
+    if (answer < 0) {
+      return answer;
     }
-    int fault = readInX(n);
-    if (fault < 0) {
-      return fault;
-    }
-    Poly p = reader.left.c[0];
-    if (p.n == 0) {
-      return REFUSED;
-    }
-    tapeSize = 0;
     Splitter splitter = cells.splitter;
-    splitter.run(p);
+    splitter.run(reader.left.c[0]);
     parts = splitter.count;
     for (int i = 0; i < parts; i++) {
       if (part[i] == null) {
@@ -421,11 +396,21 @@ public final class RealHouse {
     return -2 - reader.fault;
   }
 
-  /** Reads a polynomial in x alone: below 0 what is to be answered for a text that is none. */
-  private int readInX(int n) {
+  /** Reads a polynomial in x alone: below 0 what is to be answered if that can't be done. */
+  private int readInX(int n, boolean notZero) {
+    if (isNoLength(n)) {
+      return REFUSED;
+    }
     reader.begin(tape, n, true, false);
     reader.readPolys(false);
-    return reader.fault >= 0 ? faulty() : 0;
+    if (reader.fault >= 0) {
+      return faulty();
+    }
+    if (notZero && reader.left.c[0].n == 0) {
+      return REFUSED;
+    }
+    tapeSize = 0;
+    return 0;
   }
 
   private boolean isUntold(int what) {
