@@ -1412,11 +1412,9 @@ public final class RealHouse {
 
   /** Polynomials whose coefficients are told modulo a prime: rows of them, by their numbers. */
   private static final class Prime {
-    private static final int[] PRIMES = {
-      1073741789, 1073741783, 1073741741, 1073741723, 1073741719, 1073741717, 1073741689,
-      1073741671, 1073741663, 1073741651, 1073741621, 1073741567, 1073741561, 1073741527,
-      1073741503, 1073741477
-    };
+    /** The greatest prime below 2^30, and the next one: those below are looked for on need. */
+    private static final int FIRST = 1073741789;
+    private static final int SECOND = 1073741783;
     private static final int WIDTH = 24;
     /** The rows 0 .. 9 have the factors, the next ten what lifts each; these are the others. */
     private static final int LIFT = 10;
@@ -1432,12 +1430,15 @@ public final class RealHouse {
     /** The degree of each row, -1 for 0. */
     final int[] deg = new int[28];
     final long[] wide = new long[2 * WIDTH];
-    long p = PRIMES[0];
+    long p = FIRST;
     int count;
 
-    /** Takes f as it is modulo a prime: whether its degree stays and no factor is there twice. */
-    boolean take(Poly f, int which) {
-      p = PRIMES[which % PRIMES.length];
+    /**
+     * Takes f as it is modulo a prime: whether its degree stays and no factor is there twice. The
+     * turns 0, 1, .. have ever lower primes, without an end: any few of them may be unfit for f.
+     */
+    boolean take(Poly f, int turn) {
+      p = turn == 0 ? FIRST : turn == 1 ? SECOND : primeBelow(p);
       for (int i = 0; i < f.n && i < WIDTH; i++) {
         row[WHOLE][i] = f.c[i].residue((int) p);
       }
@@ -1455,6 +1456,26 @@ public final class RealHouse {
       trim(B);
       gcd(A, B);
       return deg[A] == 0;
+    }
+
+    /** The next prime below q, which is odd; q itself if there is none. */
+    private static long primeBelow(long q) {
+      for (long less = q - 2; less > 2; less -= 2) {
+        if (isPrime(less)) {
+          return less;
+        }
+      }
+      return q;
+    }
+
+    /** Whether q, odd and above 2, is a prime. */
+    private static boolean isPrime(long q) {
+      for (long by = 3; by * by <= q; by += 2) {
+        if (q % by == 0) {
+          return false;
+        }
+      }
+      return true;
     }
 
     /** Splits what was taken into its irreducible factors, the rows 0 .. count-1. */
@@ -1735,8 +1756,10 @@ public final class RealHouse {
         lifted[0].gcd(rest, slope, part, trial);
         part.quotient(rest, lifted[0]);
         rest.copy(part);
-        for (int i = 0; i < Prime.PRIMES.length && !fit; i++) {
-          fit = prime.take(rest, i);
+        // an unfit prime divides the discriminant or the highest coefficient, neither of them 0:
+        // they have some 6000 digits at most, so fewer than a thousand of the primes are unfit
+        for (int turn = 0; turn < FAR && !fit; turn++) {
+          fit = prime.take(rest, turn);
         }
       }
       if (fit && rest.n > 2) {
