@@ -72,6 +72,7 @@ public final class OneFieldTest {
   public static void main(String[] args) {
     oneField();
     unfitPrimes();
+    tiny();
     for (int seed = 0; seed < 40; seed++) {
       wander(seed);
     }
@@ -190,6 +191,23 @@ public final class OneFieldTest {
     House.due("the product, with 110 digits", -1, t.reckon(7, 2, 4, 5));
     House.due("the quotient", 2, t.reckon(7, 3, 4, 5));
     t.check(7, 77);
+  }
+
+  /** The powers of the root of 2 less 1, ever nearer to 0, until their polynomial is too long. */
+  private static void tiny() {
+    OneFieldTest t = new OneFieldTest(2);
+    t.holdWhole(0, BigInteger.ZERO);
+    t.hold(1, "x2+2x-1", 1, Element.of(ONE.negate(), ONE, ONE));
+    t.holdWhole(2, ONE);
+    t.holdWhole(3, ONE);
+    for (int i = 0; i < 160; i++) {
+      boolean goes = t.reckon(2, 2, 2, 1) > 0;
+      t.check(2, 200);
+      House.due("above 0", 2, t.h.x.compare(2, 0));
+      House.due("below the one before", goes ? 0 : 1, t.h.x.compare(2, 3));
+      t.reckon(3, 0, 2, 0);
+    }
+    House.due("degree", 2, t.kept[2].least(t.d).length - 1);
   }
 
   /** Reckonings at random. */
