@@ -43,38 +43,6 @@ public final class DataTest {
       h.wrote(where, want, h.x.out(-1));
       return;
     }
-    String[] words = call.split(" ");
-    int[] v = new int[4];
-    for (int i = 1; i < words.length; i++) {
-      v[i - 1] = Integer.parseInt(words[i]);
-    }
-    House.due(where + ", " + call, Integer.parseInt(want), answer(h.x, words[0], v));
-  }
-
-  private static int answer(RealHouse x, String name, int[] v) {
-    return switch (name) {
-      case "tell" -> x.tell(v[0], v[1]);
-      case "roots" -> x.roots(v[0]);
-      case "times" -> x.times(v[0]);
-      case "root" -> x.root(v[0], v[1]);
-      case "signAt" -> x.signAt(v[0], v[1]);
-      case "below" -> x.below(v[0], v[1]);
-      case "points" -> x.points(v[0]);
-      case "point" -> x.point(v[0], v[1], v[2]);
-      case "signAtPoint" -> x.signAtPoint(v[0], v[1]);
-      case "decide" -> x.decide(v[0]);
-      case "solve" -> x.solve(v[0]);
-      case "piece" -> x.piece(v[0], v[1]);
-      case "edge" -> x.edge(v[0], v[1], v[2]);
-      case "factors" -> x.factors(v[0]);
-      case "factor" -> x.factor(v[0]);
-      case "power" -> x.power(v[0]);
-      case "hold" -> x.hold(v[0], v[1]);
-      case "reckon" -> x.reckon(v[0], v[1], v[2], v[3]);
-      case "least" -> x.least(v[0]);
-      case "number" -> x.number(v[0], v[1]);
-      case "compare" -> x.compare(v[0], v[1]);
-      default -> throw new IllegalArgumentException(name);
-    };
+    House.due(where + ", " + call, Integer.parseInt(want), h.call(call));
   }
 }

@@ -79,20 +79,6 @@ public final class OneFieldTest {
     House.end();
   }
 
-  private static String written(BigInteger[] c) {
-    StringBuilder text = new StringBuilder();
-    for (int i = 0; i < c.length; i++) {
-      int power = c.length - 1 - i;
-      if (c[i].signum() == 0) {
-        continue;
-      }
-      text.append(c[i].signum() < 0 ? "-" : i > 0 ? "+" : "");
-      text.append(c[i].abs().equals(ONE) && power > 0 ? "" : c[i].abs().toString());
-      text.append(power > 1 ? "x" + power : power > 0 ? "x" : "");
-    }
-    return text.toString();
-  }
-
   private void hold(int j, String text, int root, Element v) {
     h.roots(text);
     House.due("hold " + text, v.b.signum() == 0 ? 1 : 2, h.x.hold(j, root));
@@ -148,7 +134,7 @@ public final class OneFieldTest {
   }
 
   private void check(int j, int k) {
-    h.wrote("least of " + kept[j], written(kept[j].least(d)), h.x.least(j));
+    h.wrote("least of " + kept[j], Polys.written(kept[j].least(d)), h.x.least(j));
     h.wrote(k + " of " + kept[j], kept[j].told(k, d), h.x.number(j, k));
   }
 

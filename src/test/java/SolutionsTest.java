@@ -8,34 +8,9 @@ public final class SolutionsTest {
     House.end();
   }
 
-  /**
-   * The pieces in words: for each [ or ( and ] or ) as an end belongs or not, the ends' floors, -
-   * for none.
-   */
-  private static String pieces(House h, int count) {
-    StringBuilder all = new StringBuilder();
-    for (int i = 0; i < count; i++) {
-      boolean same = h.x.piece(i, 4) == 1;
-      all.append(h.x.piece(i, 1) == 1 ? '[' : '(');
-      all.append(end(h, i, 0)).append(same ? '=' : ',').append(end(h, i, 1));
-      all.append(h.x.piece(i, 3) == 1 ? ']' : ')');
-    }
-    return all.toString();
-  }
-
-  private static String end(House h, int i, int which) {
-    if (h.x.piece(i, 2 * which) == 0) {
-      House.due("edge of none", -1, h.x.edge(i, which, 0));
-      return "-";
-    }
-    h.x.edge(i, which, 0);
-    return h.out();
-  }
-
   private static void is(String text, String want) {
     House h = new House();
-    String got = pieces(h, h.solve(text));
-    House.due(text + " is " + got + ", due is " + want, 1, want.equals(got) ? 1 : 0);
+    House.due(text, want, Pieces.told(h, h.solve(text), 0));
   }
 
   private static void solvesInX() {

@@ -25,10 +25,57 @@ final class House {
 
   String out() {
     StringBuilder text = new StringBuilder();
-    for (int i = 0; i < x.out(-1); i++) {
+    int size = x.out(-1);
+    for (int i = 0; i < size; i++) {
       text.append((char) x.out(i));
     }
     return text.toString();
+  }
+
+  /** Makes a call that is told by its name and its arguments, with blanks between. */
+  int call(String call) {
+    String[] words = call.split(" ");
+    int[] v = new int[5];
+    for (int i = 1; i < words.length; i++) {
+      v[i - 1] = Integer.parseInt(words[i]);
+    }
+    return switch (words[0]) {
+      case "feed" -> x.feed(v[0], v[1], v[2], v[3], v[4]);
+      case "out" -> x.out(v[0]);
+      case "tell" -> x.tell(v[0], v[1]);
+      case "roots" -> x.roots(v[0]);
+      case "times" -> x.times(v[0]);
+      case "root" -> x.root(v[0], v[1]);
+      case "signAt" -> x.signAt(v[0], v[1]);
+      case "below" -> x.below(v[0], v[1]);
+      case "points" -> x.points(v[0]);
+      case "point" -> x.point(v[0], v[1], v[2]);
+      case "signAtPoint" -> x.signAtPoint(v[0], v[1]);
+      case "decide" -> x.decide(v[0]);
+      case "solve" -> x.solve(v[0]);
+      case "piece" -> x.piece(v[0], v[1]);
+      case "edge" -> x.edge(v[0], v[1], v[2]);
+      case "factors" -> x.factors(v[0]);
+      case "factor" -> x.factor(v[0]);
+      case "power" -> x.power(v[0]);
+      case "hold" -> x.hold(v[0], v[1]);
+      case "reckon" -> x.reckon(v[0], v[1], v[2], v[3]);
+      case "least" -> x.least(v[0]);
+      case "number" -> x.number(v[0], v[1]);
+      case "compare" -> x.compare(v[0], v[1]);
+      default -> throw new IllegalArgumentException(call);
+    };
+  }
+
+  /** Feeds a text and makes a call that reads all of it: n, its last argument, comes behind it. */
+  int read(String call, String text) {
+    return call(call + " " + feed(text));
+  }
+
+  /** Makes a call that writes: what it wrote, or its answer in brackets if it did not. */
+  String written(String call) {
+    int answer = call(call);
+    return answer < 0 ? "(" + answer + ")" : out();
   }
 
   static void due(String what, long want, long got) {
@@ -39,14 +86,18 @@ final class House {
     }
   }
 
+  static void due(String what, String want, String got) {
+    checked++;
+    if (!want.equals(got)) {
+      wrong++;
+      System.out.println(what + " is " + got + ", due is " + want);
+    }
+  }
+
   /** What a call that writes answered, and what stands in the OUT then. */
   void wrote(String what, String want, int got) {
     due(what + " (bytes)", want.length(), got);
-    checked++;
-    if (!want.equals(out())) {
-      wrong++;
-      System.out.println(what + " wrote " + out() + ", due is " + want);
-    }
+    due(what + " (the OUT)", want, out());
   }
 
   void tell(int what, String text, String want) {
