@@ -244,6 +244,17 @@ public final class EdgesOfPointsTest {
     Furnished.answers("signAtPoint 3", "x", 2);
   }
 
+  /** What signAtPoint answers for one polynomial at all points. */
+  private static void signs(String text, String poly, String want) {
+    House h = new House();
+    int count = h.points(text);
+    StringBuilder all = new StringBuilder();
+    for (int i = 0; i < count; i++) {
+      all.append(i == 0 ? "" : " ").append(h.read("signAtPoint " + i, poly));
+    }
+    House.due("the signs of " + poly + " at the points of " + text, want, all.toString());
+  }
+
   /** "its sign at point i, and 1 more: 2, 1 or 0". */
   private static void tellsSigns() {
     Furnished.answers("signAtPoint 0", "0", 1);
@@ -257,6 +268,16 @@ public final class EdgesOfPointsTest {
     Furnished.answers("signAtPoint 2", "x-y", 0);
     Furnished.answers("signAtPoint 3", "x-y", 2);
     Furnished.answers("signAtPoint 3", "x3-8", 1);
+    // 0 there more than once, and three points above one x
+    Furnished.answers("signAtPoint 2", "4x2-4xy+y2", 1);
+    Furnished.answers("signAtPoint 2", "y3-6y2+12y-8", 1);
+    Furnished.answers("signAtPoint 3", "y3-6y2+12y-8", 0);
+    signs("x;y3-y", "y2-1", "1 0 1");
+    signs("x;y3-y", "y2-y", "2 1 1");
+    signs("x;y3-y", "y2+y", "1 1 2");
+    signs("x;y3-y", "y3-y+x", "1 1 1");
+    signs("x2-2;y3-2y", "x-y", "1 0 0 2 2 1");
+    signs("x2-2;y3-2y", "x2-2xy+y2", "1 2 2 2 2 1");
     // near 0: fractions next to the root of 2
     House h = new House();
     h.points("x2-2;x-y");

@@ -264,6 +264,9 @@ public final class EdgesOfPolysTest {
     Furnished.writes("tell 4", "-y8;y8", "-y16");
     Furnished.writes("tell 4", "x8+y8;x8+y8", "x16+2x8y8+y16");
     Furnished.writes("tell 5", "y4+x3;y4-x3", "16x12");
+    Furnished.writes("tell 5", "x5;y4", "x20");
+    Furnished.writes("tell 5", "y4;x7", "x28");
+    Furnished.writes("tell 5", "x8;y4", "x32");
     Furnished.writes("tell 7", "x5-x4;x3", "x15-x12");
     Furnished.writes("tell 8", "x8;x7y", "8x14");
     Furnished.writes("tell 8", "y8;xy7", "-8y14");

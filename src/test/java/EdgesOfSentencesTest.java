@@ -2,6 +2,7 @@
 public final class EdgesOfSentencesTest {
   public static void main(String[] args) {
     compares();
+    comparesWithSignsTurned();
     joins();
     takesAU();
     nests20Deep();
@@ -59,10 +60,6 @@ public final class EdgesOfSentencesTest {
       is("Ex(x=0&x" + rels[i] + "1)", less[i]);
       is("Ex(x=1&x" + rels[i] + "1)", same[i]);
       is("Ex(x=2&x" + rels[i] + "1)", more[i]);
-      // with all signs turned it is the same one, and turned again
-      is("Ex(x-1=-1&1-x" + rels[i] + "0)", more[i]);
-      is("Ex(x-1=0&1-x" + rels[i] + "0)", same[i]);
-      is("Ex(x-1=1&1-x" + rels[i] + "0)", less[i]);
     }
     fault("x=<1", 2);
     fault("x=>1", 2);
@@ -72,6 +69,24 @@ public final class EdgesOfSentencesTest {
     fault("x>==1", 3);
     fault("x!1", 1);
     fault("x1", 2);
+  }
+
+  /** Where a polynomial with all signs turned, in the place of another one, is compared with 0. */
+  private static void comparesWithSignsTurned() {
+    String[][] rows = {
+      {"<", "(1,-)"}, {"<=", "[1,-)"}, {"=", "[1=1]"}, {"#", "(-,1)(1,-)"}, {">=", "(-,1]"},
+      {">", "(-,1)"},
+    };
+    for (String ahead : new String[] {"", "x=5&", "x=5&x=7&"}) {
+      for (String[] row : rows) {
+        House h = new House();
+        int count = h.solve("(" + ahead + "x=1&0=1|1-x" + row[0] + "0)");
+        House.due(ahead + " and 1-x" + row[0] + "0", row[1], Pieces.told(h, count, 0));
+        h = new House();
+        count = h.solve("(" + ahead + "1=x&0=1|1-x" + row[0] + "0)");
+        House.due(ahead + " and the same one", row[1], Pieces.told(h, count, 0));
+      }
+    }
   }
 
   /** "FORMULA: T {'|' T}; T: U {'&' U}". */

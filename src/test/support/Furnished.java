@@ -71,6 +71,22 @@ final class Furnished {
     return all.toString();
   }
 
+  /** What was there is reckoned with as before, and new texts are read, whatever came before. */
+  private static void goesOn(String after, House h) {
+    House.due("signAt after " + after, 1, h.read("signAt 2", "x2-2"));
+    House.due("below after " + after, 2, h.read("below 2", "x2+x"));
+    House.due("signAtPoint after " + after, 1, h.read("signAtPoint 2", "4x2-4xy+y2"));
+    House.due("compare after " + after, 2, h.x.compare(0, 7));
+    House.due("reckon after " + after, 2, h.x.reckon(4, 0, 0, 7));
+    House.due("decide after " + after, 1, h.decide("EyExx=y"));
+    int count = h.solve("(x>1&x<=3)");
+    House.due("solve after " + after, "(1,3]", Pieces.told(h, count, 0));
+    House.due("points after " + after, 1, h.points("x-3;y"));
+    House.due("roots after " + after, 2, h.roots("x2-3"));
+    House.due("factors after " + after, 2, h.factors("x2-4"));
+    h.tell(4, "x;y", "xy");
+  }
+
   /** The call, told with all its arguments, is refused: all stays, and the text on the tape. */
   static void unread(String call, String text) {
     String what = call + " of " + text;
@@ -87,6 +103,7 @@ final class Furnished {
     if (told >= 0) {
       House.due("the text after " + what, other.out(), h.out());
     }
+    goesOn(what, h);
   }
 
   /** A call that reads all of the text, its n left out, is refused. */
@@ -106,6 +123,9 @@ final class Furnished {
     House.due(what, -2 - place, h.read(call, text));
     stands(what, h);
     House.due("the tape after " + what, 0, h.tapeSize());
+    // away with what tapeSize fed
+    h.x.tell(0, 0);
+    goesOn(what, h);
   }
 
   /** A call that reads all of the text, its n left out, answers: the tape is empty then. */
