@@ -25,6 +25,8 @@ public final class EdgesOfNumbersTest {
     takesTheSameNumbers();
     tellsDegrees();
     comparesTheSame();
+    roundsNothing();
+    roundsNoFractions();
     House.end();
   }
 
@@ -423,15 +425,70 @@ public final class EdgesOfNumbersTest {
     House.due("a fraction just above", 0, h.x.compare(0, 1));
     hold(h, 1, "195025x-275807");
     House.due("a fraction just below", 2, h.x.compare(0, 1));
-    // two that differ by 1/(10^60-1) and not at all
+  }
+
+  /** The greatest whole number that is at most 2^k (whole + sign (a - b times the root of 2)). */
+  private static String told(int whole, int sign, BigInteger a, BigInteger b, int k) {
+    BigInteger root = b.pow(2).shiftLeft(2 * k + 1).sqrt();
+    BigInteger part = a.shiftLeft(k).subtract(root).subtract(ONE);
+    part = sign > 0 ? part : part.negate().subtract(ONE);
+    return BigInteger.valueOf(whole).shiftLeft(k).add(part).toString();
+  }
+
+  /** "nothing is ever rounded": (root of 2 - 1)^156, some 2^-198, alone and beside whole numbers. */
+  private static void roundsNothing() {
+    BigInteger a = ONE;
+    BigInteger b = BigInteger.ZERO;
+    for (int i = 0; i < 156; i++) {
+      BigInteger next = a.add(b.shiftLeft(1));
+      b = a.add(b);
+      a = next;
+    }
+    for (int whole = -1; whole <= 1; whole++) {
+      for (int sign = -1; sign <= 1; sign += 2) {
+        House h = new House();
+        h.roots("x2+2x-1");
+        h.x.hold(0, 1);
+        hold(h, 1, "x-1");
+        hold(h, 2, whole == 0 ? "x" : whole > 0 ? "x-1" : "x+1");
+        // 156 is 128 and 16 and 8 and 4
+        for (int i = 1; i <= 7; i++) {
+          h.x.reckon(0, 2, 0, 0);
+          if (i >= 2 && i != 5 && i != 6) {
+            h.x.reckon(1, 2, 1, 0);
+          }
+        }
+        h.wrote("the power", "x2-" + a.shiftLeft(1) + "x+1", h.x.least(1));
+        House.due("degree", 2, h.x.reckon(3, sign > 0 ? 0 : 1, 2, 1));
+        for (int k : new int[] {0, 1, 197, 198, 199, 200}) {
+          h.wrote(whole + " and " + sign + " at " + k, told(whole, sign, a, b, k),
+              h.x.number(3, k));
+        }
+        House.due("beside the whole number", sign + 1, h.x.compare(3, 2));
+      }
+    }
+  }
+
+  /** The same of a fraction, 1/(10^60-1). */
+  private static void roundsNoFractions() {
     BigInteger most = TEN.pow(60).subtract(ONE);
-    h = new House();
+    House h = new House();
     build(h, 0, most);
     hold(h, 1, "x-1");
-    h.x.reckon(2, 3, 1, 0);
     hold(h, 3, "x");
+    h.x.reckon(2, 3, 1, 0);
     House.due("just above 0", 2, h.x.compare(2, 3));
-    h.wrote("though it is told as 0", "0", h.x.number(2, 199));
-    h.wrote("but for the finest", "1", h.x.number(2, 200));
+    h.wrote("just above 0 at 199", "0", h.x.number(2, 199));
+    h.wrote("just above 0 at 200", "1", h.x.number(2, 200));
+    h.x.reckon(2, 1, 3, 2);
+    House.due("just below 0", 0, h.x.compare(2, 3));
+    h.wrote("just below 0 at 0", "-1", h.x.number(2, 0));
+    h.wrote("just below 0 at 199", "-1", h.x.number(2, 199));
+    h.wrote("just below 0 at 200", "-2", h.x.number(2, 200));
+    h.x.reckon(2, 0, 2, 1);
+    House.due("just below 1", 0, h.x.compare(2, 1));
+    h.wrote("just below 1 at 0", "0", h.x.number(2, 0));
+    h.wrote("just below 1 at 199", ONE.shiftLeft(199).subtract(ONE).toString(),
+        h.x.number(2, 199));
   }
 }
