@@ -11,14 +11,18 @@ public final class LongRunTest {
   private static final String LETTERS = "xxxyyy0123456789+-;<>=#&|~()EA \u00ff";
 
   public static void main(String[] args) {
-    for (int seed = 0; seed < 60; seed++) {
+    for (int seed = 0; seed < 200; seed++) {
       House.due("run " + seed + " again", run(seed, false), run(seed, false));
     }
-    for (int seed = 0; seed < 4; seed++) {
+    for (int seed = 0; seed < 20; seed++) {
       long before = made();
       run(seed, true);
       long bytes = made() - before;
       House.due("bytes that run " + seed + " made", 1, bytes < ROOM ? 1 : bytes);
+      before = made();
+      reckon(seed);
+      bytes = made() - before;
+      House.due("bytes that reckonings " + seed + " made", 1, bytes < ROOM ? 1 : bytes);
     }
     House.end();
   }
@@ -33,7 +37,7 @@ public final class LongRunTest {
     Random random = new Random(seed);
     House h = new House();
     long all = 0;
-    for (int i = 0; i < 512; i++) {
+    for (int i = 0; h.x.left() > 25; i++) {
       String text = great ? great(random, i % 5) : text(random);
       int n = h.feed(text);
       n = random.nextInt(20) == 0 ? random.nextInt(500) - 50 : n;
@@ -43,7 +47,33 @@ public final class LongRunTest {
         all = all * 31 + h.x.out(random.nextInt(12) - 2);
       }
     }
+    while (h.x.left() > 0) {
+      all = all * 31 + h.x.out(h.x.left());
+    }
     return all;
+  }
+
+  /** A run that reckons with numbers of degree 8 and such as have 60 digits. */
+  private static void reckon(int seed) {
+    Random random = new Random(seed);
+    House h = new House();
+    String[] texts = {
+      "x8-3x-5", "x4-x-999983", "x2-3x-999983", "999983x-999979", "x-999983", "999959x-999961",
+    };
+    for (int j = 0; j < texts.length; j++) {
+      h.roots(texts[j]);
+      h.x.hold(j, 0);
+    }
+    while (h.x.left() > 6) {
+      int j = random.nextInt(3);
+      h.x.reckon(random.nextInt(4) == 0 ? 6 : j, random.nextInt(4), j, random.nextInt(7));
+      h.x.number(random.nextInt(7), 200);
+      h.x.compare(random.nextInt(7), random.nextInt(7));
+      if (random.nextInt(12) == 0) {
+        h.roots(texts[j]);
+        h.x.hold(j, 0);
+      }
+    }
   }
 
   private static int small(Random random) {
@@ -51,7 +81,7 @@ public final class LongRunTest {
     return kind == 0 ? random.nextInt() : kind == 1 ? -1 : random.nextInt(5);
   }
 
-  private static int call(RealHouse x, int kind, int n, Random r) {
+  private static int call(Counted x, int kind, int n, Random r) {
     return switch (kind) {
       case 0 -> x.tell(5, n);
       case 1 -> x.decide(n);

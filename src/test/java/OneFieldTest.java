@@ -73,7 +73,7 @@ public final class OneFieldTest {
     oneField();
     unfitPrimes();
     tiny();
-    for (int seed = 0; seed < 40; seed++) {
+    for (int seed = 0; seed < 400; seed++) {
       wander(seed);
     }
     House.end();
@@ -138,21 +138,29 @@ public final class OneFieldTest {
     h.wrote(k + " of " + kept[j], kept[j].told(k, d), h.x.number(j, k));
   }
 
+  /** Makes the numbers 4 and 5 quotients by 6. */
+  private void quotients(String[] four, String[] five, String[] six) {
+    begin();
+    build(6, six[0], six[1]);
+    build(4, four[0], four[1]);
+    build(5, five[0], five[1]);
+    reckon(4, 3, 4, 6);
+    reckon(5, 3, 5, 6);
+  }
+
   /** Quotients by one number whose norm has 54 digits: sums keep that denominator. */
   private static void oneField() {
-    OneFieldTest t = new OneFieldTest(2);
-    t.begin();
-    t.build(6, "123456789012345678901234567", "-98765432109876543210987654");
-    t.build(4, "777777777777777777777777", "31415926535897932384626433");
-    t.build(5, "-27182818284590452353602874", "161803398874989484820458683");
-    t.reckon(4, 3, 4, 6);
-    t.reckon(5, 3, 5, 6);
+    String[] four = {"777777777777777777777777", "31415926535897932384626433"};
+    String[] five = {"-27182818284590452353602874", "161803398874989484820458683"};
+    String[] six = {"123456789012345678901234567", "-98765432109876543210987654"};
     for (int what = 0; what < 4; what++) {
+      OneFieldTest t = new OneFieldTest(2);
+      t.quotients(four, five, six);
       if (t.reckon(7, what, 4, 5) > 0) {
         t.check(7, 100);
       }
+      House.due("order", 1 + t.kept[4].plus(t.kept[5], -1).sign(t.d), t.h.x.compare(4, 5));
     }
-    House.due("order", 1 + t.kept[4].plus(t.kept[5], -1).sign(t.d), t.h.x.compare(4, 5));
   }
 
   /**
@@ -160,40 +168,43 @@ public final class OneFieldTest {
    * primes below 2^30 divide, and a discriminant that the other twelve divide.
    */
   private static void unfitPrimes() {
+    String[] four = {"327103419868755892876297103", "1577444178114735005056169224"};
+    String[] five = {"-1112515106004219670604188395", "-163714757189962652295232236"};
+    String[] six = {"1283994590258009279909539769", "432580196224998744846263478"};
+    int[] degree = {2, 2, -1, 2};
+    for (int what = 0; what < 4; what++) {
+      OneFieldTest t = new OneFieldTest(17);
+      t.quotients(four, five, six);
+      House.due("degree of what " + what, degree[what], t.reckon(7, what, 4, 5));
+      if (degree[what] > 0) {
+        t.check(7, what == 0 ? 20 : 77 * what - 77);
+      }
+    }
     OneFieldTest t = new OneFieldTest(17);
-    t.begin();
-    t.build(6, "1283994590258009279909539769", "432580196224998744846263478");
-    t.build(4, "327103419868755892876297103", "1577444178114735005056169224");
-    t.build(5, "-1112515106004219670604188395", "-163714757189962652295232236");
-    t.reckon(4, 3, 4, 6);
-    t.reckon(5, 3, 5, 6);
-    House.due("the sum", 2, t.reckon(7, 0, 4, 5));
-    t.check(7, 200);
+    t.quotients(four, five, six);
+    t.reckon(7, 0, 4, 5);
     t.h.wrote("the sum", "1532493537011159972588679040159536322168891655950586867x2"
         + "-22809674622878237612314388651538373820824705457292208072x"
         + "+33359853368282814535031396030362549452957037578041277184", t.h.x.least(7));
-    House.due("the difference", 2, t.reckon(7, 1, 4, 5));
-    t.check(7, 0);
-    House.due("the product, with 110 digits", -1, t.reckon(7, 2, 4, 5));
-    House.due("the quotient", 2, t.reckon(7, 3, 4, 5));
-    t.check(7, 77);
   }
 
   /** The powers of the root of 2 less 1, ever nearer to 0, until their polynomial is too long. */
   private static void tiny() {
-    OneFieldTest t = new OneFieldTest(2);
-    t.holdWhole(0, BigInteger.ZERO);
-    t.hold(1, "x2+2x-1", 1, Element.of(ONE.negate(), ONE, ONE));
-    t.holdWhole(2, ONE);
-    t.holdWhole(3, ONE);
-    for (int i = 0; i < 160; i++) {
+    for (int last = 1; last <= 158; last++) {
+      OneFieldTest t = new OneFieldTest(2);
+      t.holdWhole(0, BigInteger.ZERO);
+      t.hold(1, "x2+2x-1", 1, Element.of(ONE.negate(), ONE, ONE));
+      t.holdWhole(2, ONE);
+      for (int i = 1; i < last; i++) {
+        t.reckon(2, 2, 2, 1);
+      }
+      t.reckon(3, 0, 2, 0);
       boolean goes = t.reckon(2, 2, 2, 1) > 0;
+      House.due("power " + last + " has 60 digits at most", last < 157 ? 1 : 0, goes ? 1 : 0);
       t.check(2, 200);
       House.due("above 0", 2, t.h.x.compare(2, 0));
       House.due("below the one before", goes ? 0 : 1, t.h.x.compare(2, 3));
-      t.reckon(3, 0, 2, 0);
     }
-    House.due("degree", 2, t.kept[2].least(t.d).length - 1);
   }
 
   /** Reckonings at random. */
@@ -207,18 +218,22 @@ public final class OneFieldTest {
         t.holdWhole(j, BigInteger.valueOf(1 + random.nextInt(999999)));
       }
     }
-    for (int i = 0; i < 160; i++) {
+    // a check takes some 320 calls at most, a round eight
+    boolean checks = random.nextInt(3) > 0;
+    while (t.h.x.left() > (checks ? 328 : 8)) {
       int a = random.nextInt(8);
       int b = random.nextInt(8);
       int j = random.nextInt(8);
       t.reckon(j, random.nextInt(4), a, b);
-      t.check(j, random.nextInt(201));
       House.due("order", 1 + t.kept[a].plus(t.kept[b], -1).sign(t.d), t.h.x.compare(a, b));
       if (random.nextInt(8) == 0) {
         t.holdWhole(j, BigInteger.valueOf(1 + random.nextInt(999999)));
       } else if (random.nextInt(8) == 0) {
         t.hold(j, "x2-" + t.d, 1, Element.of(BigInteger.ZERO, ONE, ONE));
       }
+    }
+    if (checks) {
+      t.check(random.nextInt(8), random.nextInt(201));
     }
   }
 }
