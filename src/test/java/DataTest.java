@@ -44,7 +44,7 @@ public final class DataTest {
     }
   }
 
-  /** A house answers 512 calls: when few are left another one, in which all was done, takes over. */
+  /** A house answers 512 calls: when few are left, another one that has done all takes over. */
   private void renew(int few, List<String> done) {
     if (h.x.left() < few) {
       h = new House();

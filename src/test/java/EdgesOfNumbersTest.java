@@ -435,7 +435,7 @@ public final class EdgesOfNumbersTest {
     return BigInteger.valueOf(whole).shiftLeft(k).add(part).toString();
   }
 
-  /** "nothing is ever rounded": (root of 2 - 1)^156, some 2^-198, alone and beside whole numbers. */
+  /** "nothing is ever rounded": (root of 2 - 1)^156, some 2^-198, and whole numbers beside it. */
   private static void roundsNothing() {
     BigInteger a = ONE;
     BigInteger b = BigInteger.ZERO;
