@@ -7,14 +7,21 @@ final class House {
 
   /** Feeds a text, filled up with zero bytes: how long it was. */
   int feed(String text) {
+    feedAll(text);
+    return text.length();
+  }
+
+  /** Feeds a text, filled up with zero bytes: what the last feed answered. */
+  int feedAll(String text) {
     int[] four = new int[(text.length() + 19) / 20 * 5];
     for (int i = 0; i < text.length(); i++) {
       four[i / 4] |= text.charAt(i) << 24 - i % 4 * 8;
     }
+    int answer = 0;
     for (int i = 0; i < four.length; i += 5) {
-      x.feed(four[i], four[i + 1], four[i + 2], four[i + 3], four[i + 4]);
+      answer = x.feed(four[i], four[i + 1], four[i + 2], four[i + 3], four[i + 4]);
     }
-    return text.length();
+    return answer;
   }
 
   /** How many bytes the tape has: one more feed tells, but for a full tape. */
