@@ -4,6 +4,7 @@ import java.math.BigInteger;
 public final class EdgesOfNumbersTest {
   private static final BigInteger TEN = BigInteger.TEN;
   private static final BigInteger ONE = BigInteger.ONE;
+  private static final BigInteger TWO = BigInteger.TWO;
 
   public static void main(String[] args) {
     hasNoFactorsInDegree0();
@@ -25,6 +26,7 @@ public final class EdgesOfNumbersTest {
     takesTheSameNumbers();
     tellsDegrees();
     comparesTheSame();
+    comparesTheNearest();
     roundsNothing();
     roundsNoFractions();
     House.end();
@@ -425,6 +427,37 @@ public final class EdgesOfNumbersTest {
     House.due("a fraction just above", 0, h.x.compare(0, 1));
     hold(h, 1, "195025x-275807");
     House.due("a fraction just below", 2, h.x.compare(0, 1));
+  }
+
+  /** Fractions of up to 49 digits on both sides of the root of 2: nearer than 2^-200 can tell. */
+  private static void comparesTheNearest() {
+    House h = new House();
+    h.roots("x2-2");
+    h.x.hold(0, 1);
+    hold(h, 1, "2x-3");
+    hold(h, 2, "x-2");
+    BigInteger p = BigInteger.valueOf(3);
+    BigInteger q = TWO;
+    for (int i = 0; i < 6; i++) {
+      h.x.reckon(3, 3, 2, 1);
+      House.due("just below, " + i, 2, h.x.compare(0, 3));
+      House.due("just above, " + i, 0, h.x.compare(0, 1));
+      h.x.reckon(1, 0, 1, 3);
+      h.x.reckon(1, 3, 1, 2);
+      BigInteger next = p.pow(2).add(q.pow(2).shiftLeft(1));
+      q = p.multiply(q).shiftLeft(1);
+      p = next;
+    }
+    h.x.reckon(3, 3, 2, 1);
+    h.wrote("the last one", q + "x-" + p, h.x.least(1));
+    House.due("just below, at last", 2, h.x.compare(0, 3));
+    House.due("just above, at last", 0, h.x.compare(0, 1));
+    House.due("both of them", 0, h.x.compare(3, 1));
+    String all = TWO.shiftLeft(400).sqrt().toString();
+    h.wrote("the root of 2", all, h.x.number(0, 200));
+    h.wrote("the one just above", all, h.x.number(1, 200));
+    h.wrote("the one just below", all, h.x.number(3, 200));
+    House.due("their difference would be too long", -1, h.x.reckon(4, 1, 1, 0));
   }
 
   /** The greatest whole number that is at most 2^k (whole + sign (a - b times the root of 2)). */
